@@ -1,5 +1,6 @@
 import java.lang.reflect.InvocationTargetException;
 import java.lang.reflect.Method;
+import java.util.Arrays;
 
 /** What the tests share: calls by name, answers as texts, and the count of wrong ones. */
 final class Check {
@@ -27,21 +28,28 @@ final class Check {
         try {
             return String.valueOf(method.invoke(room, args));
         } catch (InvocationTargetException e) {
-            return "throws." + e.getCause().getClass().getSimpleName();
+            return "throws." + e.getCause().getClass().getSimpleName() + origin(room, e.getCause());
         } catch (IllegalAccessException e) {
             throw new AssertionError(e);
         }
     }
 
+    /** Empty if a throw statement of the room's own code threw it, and not the machine or the library. */
+    private static String origin(Object room, Throwable thrown) {
+        StackTraceElement[] trace = thrown.getStackTrace();
+        boolean isOwn = trace.length > 0 && trace[0].getClassName().startsWith(room.getClass().getName());
+        return isOwn ? "" : " (not by the room's own throw)";
+    }
+
     void due(Object room, Object want, String name, Object... args) {
-        same(name + java.util.Arrays.toString(args), answer(room, name, args), String.valueOf(want));
+        same(name + Arrays.toString(args), answer(room, name, args), String.valueOf(want));
     }
 
     /** The call throws the exception of this short name, and nothing that can be asked changes. */
     void refused(Object room, String exception, String name, Object... args) {
         String before = state(room);
         due(room, "throws." + longName(exception), name, args);
-        same("state behind " + name + java.util.Arrays.toString(args), state(room), before);
+        same("state behind " + name + Arrays.toString(args), state(room), before);
     }
 
     void same(String what, String got, String want) {
@@ -98,7 +106,7 @@ final class Check {
     }
 
     private static void list(StringBuilder all, Object room, String name, Object... first) {
-        Object[] args = java.util.Arrays.copyOf(first, first.length + 1);
+        Object[] args = Arrays.copyOf(first, first.length + 1);
         for (int i = 0;; i++) {
             args[first.length] = i;
             String answer = answer(room, name, args);
