@@ -1,12 +1,21 @@
-import java.lang.reflect.InvocationTargetException;
-import java.lang.reflect.Method;
-import java.util.Arrays;
+import java.util.LinkedHashSet;
+import java.util.List;
+import java.util.Set;
 
-/** What the tests share: calls by name, answers as texts, and the count of wrong ones. */
+/** What the tests share: the sentence of the document that is tested, and the count of wrong answers. */
 final class Check {
-    static final Object[] EVERY_FILM = {0, 1, 2, 3, 4, 5};
+    static final String INDEX = "throws.IndexOutOfBoundsException";
+    static final String ARGUMENT = "throws.IllegalArgumentException";
+    static final String STATE = "throws.IllegalStateException";
+    static final String UNSUPPORTED = "throws.UnsupportedOperationException";
+    static final String ELEMENT = "throws.NoSuchElementException";
+    static final String ARITHMETIC = "throws.ArithmeticException";
 
     private final String title;
+    private final Set<String> quoted = new LinkedHashSet<>();
+    private String part = "";
+    private String sentence = "";
+    private int checksOfSentence = 0;
     private int checks = 0;
     private int wrong = 0;
 
@@ -14,119 +23,89 @@ final class Check {
         this.title = title;
     }
 
-    /** The answer of a call as a text; a thrown exception is told by its exact class. */
-    static String answer(Object room, String name, Object... args) {
-        for (Method method : room.getClass().getDeclaredMethods()) {
-            if (method.getName().equals(name)) {
-                return invoke(room, method, args);
-            }
+    /** The part of the document that the sentences from now on are from. */
+    void part(String name) {
+        sentence("");
+        part = name;
+    }
+
+    void promise(int number) {
+        part("promise " + number);
+    }
+
+    /** What is checked from now on tests this sentence. */
+    void sentence(String text) {
+        if (!sentence.isEmpty()) {
+            same("tests", checksOfSentence == 0 ? "none" : "some", "some");
         }
-        throw new AssertionError("no method " + name);
-    }
-
-    private static String invoke(Object room, Method method, Object... args) {
-        try {
-            return String.valueOf(method.invoke(room, args));
-        } catch (InvocationTargetException e) {
-            return "throws." + e.getCause().getClass().getSimpleName() + origin(room, e.getCause());
-        } catch (IllegalAccessException e) {
-            throw new AssertionError(e);
+        sentence = text;
+        checksOfSentence = 0;
+        if (!text.isEmpty() && !quoted.add(part + ": " + text)) {
+            same("tests", "twice", "once");
         }
     }
 
-    /** Empty if a throw statement of the room's own code threw it, and not the machine or the library. */
-    private static String origin(Object room, Throwable thrown) {
-        StackTraceElement[] trace = thrown.getStackTrace();
-        boolean isOwn = trace.length > 0 && trace[0].getClassName().startsWith(room.getClass().getName());
-        return isOwn ? "" : " (not by the room's own throw)";
+    Run run() {
+        return new Run(this);
     }
 
-    void due(Object room, Object want, String name, Object... args) {
-        same(name + Arrays.toString(args), answer(room, name, args), String.valueOf(want));
+    Run run(String calls) {
+        return run().go(calls);
     }
 
-    /** The call throws the exception of this short name, and nothing that can be asked changes. */
-    void refused(Object room, String exception, String name, Object... args) {
-        String before = state(room);
-        due(room, "throws." + longName(exception), name, args);
-        same("state behind " + name + Arrays.toString(args), state(room), before);
+    void counted() {
+        checks++;
+        checksOfSentence++;
     }
 
     void same(String what, String got, String want) {
-        checks++;
+        counted();
         if (!got.equals(want)) {
             wrong++;
-            System.out.println(title + ": " + what + " answered " + got + ", due is " + want);
+            System.out.println(title + (part.isEmpty() ? "" : ", " + part) + (sentence.isEmpty() ? "" : ", " + sentence));
+            System.out.println("  " + what + " answered " + got + ", due is " + want);
+        }
+    }
+
+    /** Each sentence of these promises has its test, and each test its sentence. */
+    void coversPromises(int first, int last) {
+        Set<String> told = new LinkedHashSet<>();
+        for (int number = first; Document.isAtHand() && number <= last; number++) {
+            for (String text : Document.promise(number)) {
+                told.add("promise " + number + ": " + text);
+            }
+        }
+        covers(told);
+    }
+
+    void coversTerms(String part) {
+        Set<String> told = new LinkedHashSet<>();
+        for (String text : Document.isAtHand() ? Document.terms() : List.<String>of()) {
+            told.add(part + ": " + text);
+        }
+        covers(told);
+    }
+
+    private void covers(Set<String> told) {
+        sentence("");
+        part = "";
+        if (!Document.isAtHand()) {
+            System.out.println(title + ": no document at hand to hold the quoted sentences against");
+            return;
+        }
+        for (String text : told) {
+            same(text, quoted.contains(text) ? "tested" : "not tested", "tested");
+        }
+        for (String text : quoted) {
+            same(text, told.contains(text) ? "in the document" : "not in the document", "in the document");
         }
     }
 
     void end() {
+        sentence("");
         System.out.println(title + ": " + checks + " checks, " + wrong + " wrong");
         if (wrong != 0 || checks == 0) {
             System.exit(1);
         }
-    }
-
-    private static String longName(String exception) {
-        switch (exception) {
-            case "index": return "IndexOutOfBoundsException";
-            case "argument": return "IllegalArgumentException";
-            case "state": return "IllegalStateException";
-            case "unsupported": return "UnsupportedOperationException";
-            case "element": return "NoSuchElementException";
-            case "arithmetic": return "ArithmeticException";
-            default: throw new AssertionError(exception);
-        }
-    }
-
-    /** All that can be asked without a change, as one text. */
-    static String state(Object room) {
-        StringBuilder all = new StringBuilder();
-        for (Object film : EVERY_FILM) {
-            all.append("film ").append(answer(room, "shots", film)).append(':');
-            list(all, room, "shotOf", film);
-        }
-        for (int shot = 0; !answer(room, "lengthOf", shot).startsWith("throws."); shot++) {
-            all.append("shot ").append(shot);
-            for (String name : new String[] {"lengthOf", "frameOf", "reelOf", "scanned", "missed", "gradeOf", "gradeFrom"}) {
-                all.append(' ').append(answer(room, name, shot));
-            }
-        }
-        for (int reel = 0; reel < 24; reel++) {
-            all.append("reel ").append(reel).append(':');
-            list(all, room, "wear", reel);
-        }
-        all.append("versions ");
-        list(all, room, "frames");
-        all.append("limit ").append(limitOf(room));
-        for (String name : new String[] {"shown", "keptShare", "meanWear", "isSound"}) {
-            all.append(' ').append(answer(room, name));
-        }
-        return all.toString();
-    }
-
-    private static void list(StringBuilder all, Object room, String name, Object... first) {
-        Object[] args = Arrays.copyOf(first, first.length + 1);
-        for (int i = 0;; i++) {
-            args[first.length] = i;
-            String answer = answer(room, name, args);
-            if (answer.startsWith("throws.")) {
-                all.append(answer).append('\n');
-                return;
-            }
-            all.append(' ').append(answer);
-        }
-    }
-
-    /** Asks the limit by setting it, and sets it back: the least one that is taken tells it. */
-    private static int limitOf(Object room) {
-        for (int tried = 2; tried <= 50; tried++) {
-            String before = answer(room, "setLimit", tried);
-            if (!before.startsWith("throws.")) {
-                answer(room, "setLimit", Integer.parseInt(before));
-                return Integer.parseInt(before);
-            }
-        }
-        throw new AssertionError("no limit is taken");
     }
 }

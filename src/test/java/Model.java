@@ -264,6 +264,10 @@ final class Model {
         return greatest(splicesOfReel.get(reel));
     }
 
+    boolean hasSplice(int reel) {
+        return !isOut(reel, 0, splicesOfReel.size() - 1) && !splicesOfReel.get(reel).isEmpty();
+    }
+
     int wear(int reel, int index) {
         known(reel, filmOfReel);
         known(index, splicesOfReel.get(reel));

@@ -1,12 +1,11 @@
 import java.util.ArrayList;
-import java.util.Arrays;
 import java.util.List;
 import java.util.Random;
 
 /** All promises: long runs of calls, the same ones in each run of this test, held against the model. */
 public final class RandomRunsTest {
     private static final int RUNS = 400;
-    private static final int CALLS = 512;
+    private static final int STATE_EVERY = 4;
 
     private static final String[] CHANGES = {"addFilm", "addShot", "addReel", "put", "found", "join", "setLimit", "run",
         "mend", "scan", "grade", "passOn", "addVersion", "leaveOut", "lend", "show", "giveBack", "advance"};
@@ -18,8 +17,9 @@ public final class RandomRunsTest {
     private final int usualFilms;
     private final int[] weights = new int[CHANGES.length];
     private final List<String> calls = new ArrayList<>();
-    private final Spliceroom room = new Spliceroom();
+    private final Caller room = new Caller(new Spliceroom());
     private final Model model = new Model();
+    private final Caller modelled = new Caller(model);
     private final List<Integer> filmsOfVersions = new ArrayList<>();
     private int films = 0;
     private int shots = 0;
@@ -45,13 +45,13 @@ public final class RandomRunsTest {
     }
 
     private void go(Check check, int seed) {
-        for (int i = 0; i < CALLS; i++) {
+        for (int i = 0; i < Caller.MOST_CALLS; i++) {
             String name = i == 0 ? "addFilm" : name();
             Object[] args = arguments(name);
-            String call = name + Arrays.toString(args);
+            String call = written(name, args);
             calls.add(call);
-            String got = Check.answer(room, name, args);
-            String want = Check.answer(model, name, args);
+            String got = room.answer(call);
+            String want = modelled.answer(call);
             check.same("run " + seed + ", call " + i + ", " + call, got, want);
             if (!got.equals(want)) {
                 System.out.println("  after " + calls);
@@ -59,11 +59,23 @@ public final class RandomRunsTest {
             }
             count(name, args, got);
         }
-        check.same("run " + seed + ", state at its end", Check.state(room), Check.state(model));
+        if (seed % STATE_EVERY == 0) {
+            List<String> some = calls.subList(0, 1 + random.nextInt(400));
+            check.same("run " + seed + ", state behind " + some.size() + " calls", State.behind(some, some.size(), Spliceroom::new),
+                    State.behind(some, some.size(), Model::new));
+        }
+    }
+
+    private static String written(String name, Object[] args) {
+        StringBuilder call = new StringBuilder(name);
+        for (Object arg : args) {
+            call.append(' ').append(arg);
+        }
+        return call.toString();
     }
 
     private void count(String name, Object[] args, String answer) {
-        if (answer.startsWith("throws.")) {
+        if (Caller.isThrown(answer)) {
             return;
         }
         films += name.equals("addFilm") ? 1 : 0;
@@ -163,7 +175,7 @@ public final class RandomRunsTest {
     /** Mostly a splice that there is. */
     private Object[] spliceArguments() {
         int reel = one(reels);
-        for (int i = 0; i < 20 && Check.answer(model, "wear", reel, 0).startsWith("throws."); i++) {
+        for (int i = 0; i < 20 && !model.hasSplice(reel); i++) {
             reel = one(reels);
         }
         return new Object[] {reel, near(0, random.nextInt(3))};
