@@ -71,7 +71,30 @@ public final class FaceTest {
         Constructor<?>[] all = Spliceroom.class.getDeclaredConstructors();
         check.same("constructors", all.length + " " + all[0].toGenericString(), "1 public Spliceroom()");
         check.same("class", Modifier.toString(Spliceroom.class.getModifiers()), "public final");
+        for (Class<?> inside : Spliceroom.class.getDeclaredClasses()) {
+            int modifiers = inside.getModifiers();
+            check.same(inside.getSimpleName() + " is static and not of the face",
+                    String.valueOf(Modifier.isStatic(modifiers)
+                    && !Modifier.isPublic(modifiers) && !Modifier.isProtected(modifiers)), "true");
+        }
+        privateNames(check);
         check.end();
+    }
+
+    /** No private method bears the name of a public one. */
+    private static void privateNames(Check check) {
+        TreeSet<String> names = new TreeSet<>();
+        for (Method method : Spliceroom.class.getDeclaredMethods()) {
+            if (Modifier.isPublic(method.getModifiers())) {
+                names.add(method.getName());
+            }
+        }
+        for (Method method : Spliceroom.class.getDeclaredMethods()) {
+            if (Modifier.isPrivate(method.getModifiers())) {
+                check.same(method.getName() + " is a public name", String.valueOf(names.contains(method.getName())),
+                        "false");
+            }
+        }
     }
 
     private static String told(Method method) {

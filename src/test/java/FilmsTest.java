@@ -41,7 +41,8 @@ public final class FilmsTest {
         String[] ofNothing = {"addShot # 5 5", "addReel #", "found # 0 5 5", "shots #", "shotOf # 0", "shotAt # 0",
             "addVersion # 0", "lengthOf #", "frameOf #", "reelOf #", "scanned #", "missed #", "grade # 5", "passOn #",
             "gradeOf #", "gradeFrom #", "put # 0", "put 0 #", "join # 0", "join 0 #", "run #", "wear # 0", "wear 0 #",
-            "mend # 0", "mend 0 #", "scan # 1", "leaveOut # 0 1 true", "frames #", "lend # 1 0 1", "show #", "giveBack #"};
+            "mend # 0", "mend 0 #", "scan # 1", "leaveOut # 0 1 true", "frames #", "lend # 1 0 1", "show #",
+                    "giveBack #"};
         for (String call : ofNothing) {
             CHECK.run().none(call, Check.INDEX);
         }
@@ -71,7 +72,8 @@ public final class FilmsTest {
     private static void addShot() {
         CHECK.promise(3);
         CHECK.sentence("Adds a shot that is missing, at the end of the row.");
-        Run x = CHECK.run("addFilm; addFilm; addVersion 0 0").due("addShot 0 5 3", 0).due("shots 0", 1).due("shots 1", 0)
+        Run x = CHECK.run("addFilm; addFilm; addVersion 0 0").due("addShot 0 5 3", 0).due("shots 0", 1)
+                .due("shots 1", 0)
                 .due("shotOf 0 0", 0).due("reelOf 0", -1).refused("frameOf 0", Check.ELEMENT)
                 .refused("shotAt 0 0", Check.ELEMENT).due("frames 0", 0).due("keptShare", 0.0f)
                 .due("scanned 0", 0).due("missed 0", 0).due("gradeOf 0", -1).due("gradeFrom 0", -1);
@@ -79,7 +81,8 @@ public final class FilmsTest {
                 .due("frames 0", 8).due("frameOf 1", 4);
         CHECK.sentence("`film`: the number of the film");
         CHECK.run("addFilm; addFilm").limits("addShot # 5 5", 0, 1, Check.INDEX);
-        CHECK.run().go(6, "addFilm").limits("addShot # 5 5", 0, 5, Check.INDEX).go("addShot 5 5 5").dues("shots #", 0, 0, 0, 0, 0, 1);
+        CHECK.run().go(6, "addFilm").limits("addShot # 5 5", 0, 5, Check.INDEX).go("addShot 5 5 5")
+                .dues("shots #", 0, 0, 0, 0, 0, 1);
         CHECK.sentence("`length`: the length, 1 to 999");
         CHECK.run("addFilm").limits("addShot 0 # 5", 1, 999, Check.ARGUMENT)
                 .go("addShot 0 1 5; addShot 0 999 5; addShot 0 500 5").dues("lengthOf #", 1, 999, 500);
@@ -97,12 +100,15 @@ public final class FilmsTest {
     private static void addShotThrows() {
         CHECK.sentence("Throws `IndexOutOfBoundsException` if there is no such film");
         CHECK.run().refused("addShot 0 5 5", Check.INDEX).refused("addShot 0 0 10", Check.INDEX);
-        CHECK.run("addFilm").refusedFor("addShot # 0 5", Check.INDEX, "1", "-1").refusedFor("addShot # 5 10", Check.INDEX, "1", "-1");
-        full().refused("addShot 2 5 5", Check.INDEX).refused("addShot -1 0 5", Check.INDEX).refused("addShot 2 5 -1", Check.INDEX);
+        CHECK.run("addFilm").refusedFor("addShot # 0 5", Check.INDEX, "1", "-1")
+                .refusedFor("addShot # 5 10", Check.INDEX, "1", "-1");
+        full().refused("addShot 2 5 5", Check.INDEX).refused("addShot -1 0 5", Check.INDEX)
+                .refused("addShot 2 5 -1", Check.INDEX);
         CHECK.sentence("Throws `IllegalArgumentException` if a number is out of range");
         CHECK.run("addFilm").refused("addShot 0 0 -1", Check.ARGUMENT).refused("addShot 0 1000 10", Check.ARGUMENT)
                 .refused("addShot 0 MIN MAX", Check.ARGUMENT).due("addShot 0 1 0", 0);
-        full().refusedFor("addShot 0 # 5", Check.ARGUMENT, "0", "1000").refusedFor("addShot 0 5 #", Check.ARGUMENT, "-1", "10");
+        full().refusedFor("addShot 0 # 5", Check.ARGUMENT, "0", "1000")
+                .refusedFor("addShot 0 5 #", Check.ARGUMENT, "-1", "10");
         CHECK.sentence("Throws `IllegalStateException` if there are 60 shots");
         full().refused("addShot 0 5 5", Check.STATE).refused("addShot 1 1 0", Check.STATE);
         CHECK.run("addFilm; addFilm").go(30, "addShot 0 5 5").go(29, "addShot 1 5 5").due("addShot 0 5 5", 59)
@@ -120,7 +126,8 @@ public final class FilmsTest {
         CHECK.run(FOUR_SHOTS).go(LENT).due("addReel 0", 3).refused("put 3 0", Check.UNSUPPORTED);
         CHECK.sentence("`film`: the number of the film");
         CHECK.run("addFilm; addFilm").limits("addReel #", 0, 1, Check.INDEX);
-        CHECK.run().go(6, "addFilm").limits("addReel #", 0, 5, Check.INDEX).go("addShot 5 5 5; addShot 4 5 5; addReel 5")
+        CHECK.run().go(6, "addFilm").limits("addReel #", 0, 5, Check.INDEX)
+                .go("addShot 5 5 5; addShot 4 5 5; addReel 5")
                 .refused("put 0 1", Check.ARGUMENT).due("put 0 0", 1);
         CHECK.sentence("Returns the number of the reel.");
         Run x = CHECK.run("addFilm; addFilm");
@@ -134,7 +141,8 @@ public final class FilmsTest {
         CHECK.sentence("Throws `IllegalStateException` if there are 24");
         CHECK.run("addFilm").go(23, "addReel 0").due("addReel 0", 23).refused("addReel 0", Check.STATE).due("run 23", 0)
                 .refused("run 24", Check.INDEX);
-        CHECK.run("addFilm; addFilm").go(12, "found 0 0 5 5").go(12, "addReel 1").refusedFor("addReel #", Check.STATE, "0", "1");
+        CHECK.run("addFilm; addFilm").go(12, "found 0 0 5 5").go(12, "addReel 1")
+                .refusedFor("addReel #", Check.STATE, "0", "1");
         // A reel that was emptied by a join is still a reel.
         CHECK.run("addFilm").go(24, "found 0 0 5 5").go("join 1 0").refused("addReel 0", Check.STATE);
     }
@@ -143,7 +151,8 @@ public final class FilmsTest {
         CHECK.promise(5);
         CHECK.sentence("Puts a shot at the end of a reel.");
         CHECK.run(FOUR_SHOTS).go("put 0 1; put 0 3; put 1 0; put 1 2; put 2 4").dues("reelOf #", 1, 0, 1, 0, 2)
-                .due("wear 0 0", 0).due("wear 1 0", 0).refused("wear 0 1", Check.INDEX).refused("wear 2 0", Check.INDEX);
+                .due("wear 0 0", 0).due("wear 1 0", 0).refused("wear 0 1", Check.INDEX)
+                .refused("wear 2 0", Check.INDEX);
         // A shot that goes behind a worn splice gets a new one.
         CHECK.run(FOUR_SHOTS).go("put 0 0; put 0 1; run 0; put 0 2").due("wear 0 0", 1).due("wear 0 1", 0);
         CHECK.run(FOUR_SHOTS).go("addVersion 0 0; put 0 3").due("frames 0", 5).due("frameOf 3", 0).due("put 1 0", 1)
@@ -172,21 +181,27 @@ public final class FilmsTest {
         CHECK.run(FOUR_SHOTS).go("put 0 1").go(LENT).refusedFor("put # 1", Check.INDEX, "3", "-1")
                 .refusedFor("put 0 #", Check.INDEX, "5", "-1").refusedFor("put 2 #", Check.INDEX, "5", "-1");
         CHECK.sentence("Throws `IllegalArgumentException` if they are of two films");
-        CHECK.run(FOUR_SHOTS).refused("put 0 4", Check.ARGUMENT).refused("put 2 0", Check.ARGUMENT).go("put 0 1; put 2 4")
-                .refused("put 2 0", Check.ARGUMENT).refused("put 2 1", Check.ARGUMENT).refused("put 1 4", Check.ARGUMENT)
-                .go(LENT).refused("put 0 4", Check.ARGUMENT).refused("put 2 1", Check.ARGUMENT).refused("put 2 0", Check.ARGUMENT);
+        CHECK.run(FOUR_SHOTS).refused("put 0 4", Check.ARGUMENT).refused("put 2 0", Check.ARGUMENT)
+                .go("put 0 1; put 2 4")
+                .refused("put 2 0", Check.ARGUMENT).refused("put 2 1", Check.ARGUMENT)
+                .refused("put 1 4", Check.ARGUMENT)
+                .go(LENT).refused("put 0 4", Check.ARGUMENT).refused("put 2 1", Check.ARGUMENT)
+                .refused("put 2 0", Check.ARGUMENT);
         CHECK.sentence("Throws `UnsupportedOperationException` if the shot is not missing, stands ahead of the last one of the"
                 + " reel, or the film is lent");
-        Run x = CHECK.run(FOUR_SHOTS).go("put 0 1").refused("put 0 1", Check.UNSUPPORTED).refused("put 1 1", Check.UNSUPPORTED)
+        Run x = CHECK.run(FOUR_SHOTS).go("put 0 1").refused("put 0 1", Check.UNSUPPORTED)
+                .refused("put 1 1", Check.UNSUPPORTED)
                 .refused("put 0 0", Check.UNSUPPORTED).takenFor("put 0 #", "2", "3");
         x.go("put 0 3").refused("put 0 2", Check.UNSUPPORTED).refused("put 0 0", Check.UNSUPPORTED)
                 .refused("put 0 1", Check.UNSUPPORTED).takenFor("put 1 #", "0", "2");
         // A found shot is not missing, and its place tells the order, not its number.
-        CHECK.run(FOUR_SHOTS).go("found 0 2 5 5").refused("put 0 5", Check.UNSUPPORTED).refused("put 3 5", Check.UNSUPPORTED)
+        CHECK.run(FOUR_SHOTS).go("found 0 2 5 5").refused("put 0 5", Check.UNSUPPORTED)
+                .refused("put 3 5", Check.UNSUPPORTED)
                 .refusedFor("put 3 #", Check.UNSUPPORTED, "0", "1").takenFor("put 3 #", "2", "3");
         CHECK.run(FOUR_SHOTS).go("found 0 0 5 5; put 3 0").dues("reelOf #", 3, -1, -1, -1, -1, 3);
         CHECK.run(FOUR_SHOTS).go(LENT).refused("put 0 0", Check.UNSUPPORTED).refused("put 1 3", Check.UNSUPPORTED)
-                .due("put 2 4", 1).due("show 0", 0).refused("put 0 0", Check.UNSUPPORTED).go("giveBack 0").due("put 0 0", 1);
+                .due("put 2 4", 1).due("show 0", 0).refused("put 0 0", Check.UNSUPPORTED).go("giveBack 0")
+                .due("put 0 0", 1);
     }
 
     private static void found() {
@@ -194,13 +209,16 @@ public final class FilmsTest {
         CHECK.sentence("Tells of a found shot.");
         CHECK.run(FOUR_SHOTS).go("addVersion 0 0; put 0 1; found 0 0 3 9").due("lengthOf 5", 3).due("reelOf 5", 3)
                 .due("frameOf 5", 0).due("frameOf 1", 3).due("frames 0", 8).due("scanned 5", 0).due("missed 5", 0)
-                .due("gradeOf 5", -1).due("gradeFrom 5", -1).due("shots 0", 5).due("shots 1", 1).due("run 3", 0).due("shown", 3);
+                .due("gradeOf 5", -1).due("gradeFrom 5", -1).due("shots 0", 5).due("shots 1", 1).due("run 3", 0)
+                .due("shown", 3);
         CHECK.sentence("`film`: the number of the film");
         CHECK.run("addFilm; addFilm").limits("found # 0 5 5", 0, 1, Check.INDEX);
-        CHECK.run().go(6, "addFilm").limits("found # 0 5 5", 0, 5, Check.INDEX).go("found 5 0 5 5").dues("shots #", 0, 0, 0, 0, 0, 1);
+        CHECK.run().go(6, "addFilm").limits("found # 0 5 5", 0, 5, Check.INDEX).go("found 5 0 5 5")
+                .dues("shots #", 0, 0, 0, 0, 0, 1);
         CHECK.sentence("`place`: the place in the row that it gets, from 0 to as many shots as there are");
         CHECK.run("addFilm").limits("found 0 # 5 5", 0, 0, Check.INDEX).go("found 0 0 5 5").due("shotOf 0 0", 0);
-        Run x = CHECK.run(FOUR_SHOTS).limits("found 0 # 5 5", 0, 4, Check.INDEX).limits("found 1 # 5 5", 0, 1, Check.INDEX);
+        Run x = CHECK.run(FOUR_SHOTS).limits("found 0 # 5 5", 0, 4, Check.INDEX)
+                .limits("found 1 # 5 5", 0, 1, Check.INDEX);
         x.copy().go("found 0 0 5 5").dues("shotOf 0 #", 5, 0, 1, 2, 3).limits("found 0 # 5 5", 0, 5, Check.INDEX);
         x.copy().go("found 0 2 5 5").dues("shotOf 0 #", 0, 1, 5, 2, 3);
         x.copy().go("found 0 4 5 5").dues("shotOf 0 #", 0, 1, 2, 3, 5);
@@ -215,7 +233,8 @@ public final class FilmsTest {
         CHECK.sentence("Returns the number of its reel.");
         Run y = CHECK.run("addFilm; addFilm; addShot 1 5 5; addReel 0");
         for (int reel = 1; reel < 24; reel++) {
-            y.due("found " + reel % 2 + " 0 5 5", reel).due("reelOf " + reel, reel).due("shotOf " + reel % 2 + " 0", reel);
+            y.due("found " + reel % 2 + " 0 5 5", reel).due("reelOf " + reel, reel)
+                    .due("shotOf " + reel % 2 + " 0", reel);
         }
     }
 
@@ -225,12 +244,14 @@ public final class FilmsTest {
         CHECK.run("addFilm").refused("found 0 1 5 5", Check.INDEX).refused("found 0 -1 0 5", Check.INDEX)
                 .refused("found 1 0 5 10", Check.INDEX);
         full().go(LENT).refused("found 2 0 5 5", Check.INDEX).refused("found 0 61 5 5", Check.INDEX)
-                .refused("found 0 -1 0 5", Check.INDEX).refused("found 1 1 5 5", Check.INDEX).refused("found -1 0 5 -1", Check.INDEX);
+                .refused("found 0 -1 0 5", Check.INDEX).refused("found 1 1 5 5", Check.INDEX)
+                .refused("found -1 0 5 -1", Check.INDEX);
         CHECK.run("addFilm").go(LENT).refused("found 0 1 5 5", Check.INDEX).refused("found 1 0 0 5", Check.INDEX);
         CHECK.sentence("Throws `IllegalArgumentException` if a number is out of range");
         CHECK.run("addFilm").refused("found 0 0 0 -1", Check.ARGUMENT).refused("found 0 0 1000 10", Check.ARGUMENT)
                 .refused("found 0 0 MAX MIN", Check.ARGUMENT).due("found 0 0 1 0", 0);
-        full().refusedFor("found 0 0 # 5", Check.ARGUMENT, "0", "1000").refusedFor("found 0 60 5 #", Check.ARGUMENT, "-1", "10")
+        full().refusedFor("found 0 0 # 5", Check.ARGUMENT, "0", "1000")
+                .refusedFor("found 0 60 5 #", Check.ARGUMENT, "-1", "10")
                 .go(LENT).refused("found 0 0 0 5", Check.ARGUMENT).refused("found 0 60 5 10", Check.ARGUMENT);
         CHECK.run("addFilm").go(LENT).refusedFor("found 0 0 # 5", Check.ARGUMENT, "0", "1000")
                 .refusedFor("found 0 0 5 #", Check.ARGUMENT, "-1", "10");
@@ -245,8 +266,10 @@ public final class FilmsTest {
 
     private static void foundWithoutRoom() {
         CHECK.sentence("Throws `IllegalStateException` if there are 60 shots, or 24 reels");
-        full().refused("found 0 0 5 5", Check.STATE).refused("found 1 0 5 5", Check.STATE).refused("found 0 60 5 5", Check.STATE);
-        CHECK.run("addFilm; addFilm").go(59, "addShot 0 5 5").due("found 0 59 5 5", 0).refused("found 0 0 5 5", Check.STATE)
+        full().refused("found 0 0 5 5", Check.STATE).refused("found 1 0 5 5", Check.STATE)
+                .refused("found 0 60 5 5", Check.STATE);
+        CHECK.run("addFilm; addFilm").go(59, "addShot 0 5 5").due("found 0 59 5 5", 0)
+                .refused("found 0 0 5 5", Check.STATE)
                 .refused("found 1 0 5 5", Check.STATE).due("addReel 0", 1);
         CHECK.run("addFilm; addFilm").go(23, "addReel 0").due("found 0 0 5 5", 23).refused("found 0 0 5 5", Check.STATE)
                 .refused("found 1 0 5 5", Check.STATE).due("addShot 0 5 5", 1);
@@ -259,7 +282,8 @@ public final class FilmsTest {
     private static void join() {
         CHECK.promise(7);
         CHECK.sentence("Joins two reels.");
-        CHECK.run(FOUR_SHOTS).go("put 0 0; put 0 1; put 1 2; put 1 3; run 0; run 1; run 1; join 0 1").dues("wear 0 #", 1, 0, 2)
+        CHECK.run(FOUR_SHOTS).go("put 0 0; put 0 1; put 1 2; put 1 3; run 0; run 1; run 1; join 0 1")
+                .dues("wear 0 #", 1, 0, 2)
                 .refused("wear 0 3", Check.INDEX).refused("wear 1 0", Check.INDEX).dues("reelOf #", 0, 0, 0, 0)
                 .refused("scan 1 1", Check.UNSUPPORTED).due("run 1", 0).due("run 0", 3).dues("frameOf #", 0, 5, 10, 15);
         // The emptied reel takes shots again, also such as stand ahead of those that it had.
@@ -273,7 +297,8 @@ public final class FilmsTest {
         CHECK.sentence("`other`: the number of the other one");
         CHECK.run("addFilm").go(24, "found 0 0 5 5").takenFor("join 23 #", "0", "22")
                 .refusedFor("join 23 #", Check.INDEX, "24", "-1", "MIN", "MAX").go("join 1 0").due("reelOf 0", 1);
-        CHECK.run("addFilm; found 0 0 5 5").go(23, "found 0 1 5 5").due("join 0 23", 2).dues("reelOf #", 0, 1).due("reelOf 23", 0);
+        CHECK.run("addFilm; found 0 0 5 5").go(23, "found 0 1 5 5").due("join 0 23", 2).dues("reelOf #", 0, 1)
+                .due("reelOf 23", 0);
         CHECK.sentence("Returns how many shots the reel has.");
         CHECK.run(FOUR_SHOTS).go("put 0 0; put 1 1").due("join 0 1", 2).go("put 1 2; put 1 3").due("join 0 1", 4);
         Run x = CHECK.run("addFilm; addReel 0; addReel 0").go(60, "addShot 0 5 5");
@@ -296,12 +321,16 @@ public final class FilmsTest {
         CHECK.sentence("Throws `IllegalArgumentException` if both are the same, or of two films");
         Run x = CHECK.run(FOUR_SHOTS).refused("join 0 0", Check.ARGUMENT).refused("join 0 2", Check.ARGUMENT)
                 .refused("join 2 1", Check.ARGUMENT).go("put 0 0; put 2 4").refused("join 0 0", Check.ARGUMENT)
-                .refused("join 0 2", Check.ARGUMENT).refused("join 2 0", Check.ARGUMENT).refused("join 1 2", Check.ARGUMENT);
-        x.go(LENT).refused("join 0 0", Check.ARGUMENT).refused("join 1 1", Check.ARGUMENT).refused("join 0 2", Check.ARGUMENT)
+                .refused("join 0 2", Check.ARGUMENT).refused("join 2 0", Check.ARGUMENT)
+                .refused("join 1 2", Check.ARGUMENT);
+        x.go(LENT).refused("join 0 0", Check.ARGUMENT).refused("join 1 1", Check.ARGUMENT)
+                .refused("join 0 2", Check.ARGUMENT)
                 .refused("join 2 1", Check.ARGUMENT);
         CHECK.sentence("Throws `UnsupportedOperationException` if one is empty, the order is not as told, or the film is lent");
-        CHECK.run(FOUR_SHOTS).refused("join 0 1", Check.UNSUPPORTED).go("put 0 1").refused("join 0 1", Check.UNSUPPORTED)
-                .refused("join 1 0", Check.UNSUPPORTED).go("put 1 2").due("join 0 1", 2).refused("join 0 1", Check.UNSUPPORTED)
+        CHECK.run(FOUR_SHOTS).refused("join 0 1", Check.UNSUPPORTED).go("put 0 1")
+                .refused("join 0 1", Check.UNSUPPORTED)
+                .refused("join 1 0", Check.UNSUPPORTED).go("put 1 2").due("join 0 1", 2)
+                .refused("join 0 1", Check.UNSUPPORTED)
                 .refused("join 1 0", Check.UNSUPPORTED);
         CHECK.run(FOUR_SHOTS).go("put 0 1; put 1 0").refused("join 0 1", Check.UNSUPPORTED).due("join 1 0", 2);
         // Reels whose shots stand between one another's can be joined neither way.
@@ -311,7 +340,8 @@ public final class FilmsTest {
                 .refused("join 1 0", Check.UNSUPPORTED);
         // The place tells the order, not the number.
         CHECK.run(FOUR_SHOTS).go("put 0 0; put 0 1; found 0 1 5 5").refused("join 0 3", Check.UNSUPPORTED)
-                .refused("join 3 0", Check.UNSUPPORTED).go("found 0 0 5 5").refused("join 0 4", Check.UNSUPPORTED).due("join 4 0", 3);
+                .refused("join 3 0", Check.UNSUPPORTED).go("found 0 0 5 5").refused("join 0 4", Check.UNSUPPORTED)
+                .due("join 4 0", 3);
         CHECK.run(FOUR_SHOTS).go("put 0 0; put 1 1").go(LENT).refused("join 0 1", Check.UNSUPPORTED)
                 .refused("join 1 0", Check.UNSUPPORTED).due("show 0", 0).refused("join 0 1", Check.UNSUPPORTED)
                 .go("giveBack 0").due("join 0 1", 2);
@@ -321,11 +351,13 @@ public final class FilmsTest {
     private static void shots() {
         CHECK.promise(8);
         CHECK.sentence("Returns how many shots a film has.");
-        CHECK.run(FOUR_SHOTS).due("shots 0", 4).due("shots 1", 1).go("found 0 0 5 5; addShot 1 5 5").dues("shots #", 5, 2);
+        CHECK.run(FOUR_SHOTS).due("shots 0", 4).due("shots 1", 1).go("found 0 0 5 5; addShot 1 5 5")
+                .dues("shots #", 5, 2);
         CHECK.sentence("`film`: the number of the film");
         CHECK.run().none("shots #", Check.INDEX).go(6, "addFilm").limits("shots #", 0, 5, Check.INDEX);
         CHECK.sentence("Returns the number of shots, missing ones too.");
-        CHECK.run("addFilm").due("shots 0", 0).go("addShot 0 5 5").due("shots 0", 1).go("found 0 1 5 5").due("shots 0", 2)
+        CHECK.run("addFilm").due("shots 0", 0).go("addShot 0 5 5").due("shots 0", 1).go("found 0 1 5 5")
+                .due("shots 0", 2)
                 .go("addReel 0; put 1 0; join 1 0").due("shots 0", 2);
         CHECK.run("addFilm").go(60, "addShot 0 5 5").due("shots 0", 60);
         CHECK.run("addFilm").go(24, "found 0 0 5 5").due("shots 0", 24);
@@ -337,18 +369,22 @@ public final class FilmsTest {
     private static void shotOf() {
         CHECK.promise(9);
         CHECK.sentence("Returns a shot of a film.");
-        CHECK.run(FOUR_SHOTS).dues("shotOf 0 #", 0, 1, 2, 3).due("shotOf 1 0", 4).go("found 0 1 5 5").dues("shotOf 0 #", 0, 5, 1, 2, 3);
+        CHECK.run(FOUR_SHOTS).dues("shotOf 0 #", 0, 1, 2, 3).due("shotOf 1 0", 4).go("found 0 1 5 5")
+                .dues("shotOf 0 #", 0, 5, 1, 2, 3);
         CHECK.sentence("`film`: the number of the film");
         CHECK.run(FOUR_SHOTS).limits("shotOf # 0", 0, 1, Check.INDEX);
         CHECK.sentence("`place`: the place in the row, from 0");
         CHECK.run(FOUR_SHOTS).limits("shotOf 0 #", 0, 3, Check.INDEX).limits("shotOf 1 #", 0, 0, Check.INDEX);
-        CHECK.run("addFilm").none("shotOf 0 #", Check.INDEX).go(60, "addShot 0 5 5").limits("shotOf 0 #", 0, 59, Check.INDEX);
+        CHECK.run("addFilm").none("shotOf 0 #", Check.INDEX).go(60, "addShot 0 5 5")
+                .limits("shotOf 0 #", 0, 59, Check.INDEX);
         CHECK.sentence("Returns the number of the shot.");
-        CHECK.run("addFilm; addFilm; addShot 1 5 5; addShot 0 5 5; found 0 0 5 5; found 1 1 5 5").dues("shotOf 0 #", 2, 1)
+        CHECK.run("addFilm; addFilm; addShot 1 5 5; addShot 0 5 5; found 0 0 5 5; found 1 1 5 5")
+                .dues("shotOf 0 #", 2, 1)
                 .dues("shotOf 1 #", 0, 3);
         CHECK.sentence("Throws `IndexOutOfBoundsException` if there is no such film, or place");
         CHECK.run().none("shotOf # 0", Check.INDEX);
-        CHECK.run(FOUR_SHOTS).refusedFor("shotOf # 0", Check.INDEX, "2", "-1").refusedFor("shotOf 1 #", Check.INDEX, "1", "-1")
+        CHECK.run(FOUR_SHOTS).refusedFor("shotOf # 0", Check.INDEX, "2", "-1")
+                .refusedFor("shotOf 1 #", Check.INDEX, "1", "-1")
                 .refused("shotOf 2 5", Check.INDEX);
     }
 
@@ -361,7 +397,8 @@ public final class FilmsTest {
         CHECK.run(FOUR_SHOTS).limits("lengthOf #", 0, 4, Check.INDEX);
         CHECK.run("addFilm").go(60, "addShot 0 5 5").limits("lengthOf #", 0, 59, Check.INDEX);
         CHECK.sentence("Returns the number of frames.");
-        CHECK.run(FOUR_SHOTS).dues("lengthOf #", 5, 5, 5, 5, 7).go("put 0 0; put 0 1; mend 0 0").dues("lengthOf #", 4, 5, 5, 5, 7)
+        CHECK.run(FOUR_SHOTS).dues("lengthOf #", 5, 5, 5, 5, 7).go("put 0 0; put 0 1; mend 0 0")
+                .dues("lengthOf #", 4, 5, 5, 5, 7)
                 .go(3, "mend 0 0").due("lengthOf 0", 1).refused("mend 0 0", Check.UNSUPPORTED);
         CHECK.sentence("Throws `IndexOutOfBoundsException` if there is no such shot");
         CHECK.run("addFilm; addReel 0").none("lengthOf #", Check.INDEX);
@@ -373,7 +410,8 @@ public final class FilmsTest {
         CHECK.sentence("Returns the number of the first frame of a shot.");
         CHECK.run(FOUR_SHOTS).go("put 0 1; put 1 0; put 1 3; put 2 4").due("frameOf 0", 0).due("frameOf 1", 5)
                 .due("frameOf 3", 10).due("frameOf 4", 0).go("put 0 2").due("frameOf 2", 10).due("frameOf 3", 15)
-                .go("mend 0 0").dues("frameOf #", 0, 5, 9, 14, 0).go("found 0 1 3 0").dues("frameOf #", 0, 8, 12, 17, 0, 5);
+                .go("mend 0 0").dues("frameOf #", 0, 5, 9, 14, 0).go("found 0 1 3 0")
+                .dues("frameOf #", 0, 8, 12, 17, 0, 5);
         CHECK.sentence("`shot`: the number of the shot");
         CHECK.run("addFilm").go(24, "found 0 0 5 5").limits("frameOf #", 0, 23, Check.INDEX);
         CHECK.sentence("Returns the number of the frame.");
@@ -394,7 +432,8 @@ public final class FilmsTest {
         CHECK.promise(12);
         CHECK.sentence("Returns the shot that has a frame.");
         Run x = CHECK.run(FOUR_SHOTS).go("put 0 1; put 1 0; put 1 3; put 2 4")
-                .dues("shotAt 0 #", 0, 0, 0, 0, 0, 1, 1, 1, 1, 1, 3, 3, 3, 3, 3).dues("shotAt 1 #", 4, 4, 4, 4, 4, 4, 4);
+                .dues("shotAt 0 #", 0, 0, 0, 0, 0, 1, 1, 1, 1, 1, 3, 3, 3, 3, 3)
+                .dues("shotAt 1 #", 4, 4, 4, 4, 4, 4, 4);
         x.go("put 0 2; mend 0 0").due("shotAt 0 8", 1).due("shotAt 0 9", 2).due("shotAt 0 13", 2).due("shotAt 0 14", 3);
         CHECK.sentence("`film`: the number of the film");
         CHECK.run("addFilm; addFilm; found 0 0 1 1; found 1 0 1 1").limits("shotAt # 0", 0, 1, Check.INDEX);
@@ -406,9 +445,11 @@ public final class FilmsTest {
         for (int shot = 0; shot < 60; shot++) {
             y.go("put 0 " + shot);
         }
-        y.limits("shotAt 0 #", 0, 59939, Check.ELEMENT).due("shotAt 0 58940", 58).due("shotAt 0 58941", 59).due("shotAt 0 59939", 59);
+        y.limits("shotAt 0 #", 0, 59939, Check.ELEMENT).due("shotAt 0 58940", 58).due("shotAt 0 58941", 59)
+                .due("shotAt 0 59939", 59);
         CHECK.sentence("Returns the number of the shot.");
-        CHECK.run("addFilm; addFilm; found 1 0 2 2; found 0 0 1 1; found 0 0 1 1").dues("shotAt 0 #", 2, 1).dues("shotAt 1 #", 0, 0);
+        CHECK.run("addFilm; addFilm; found 1 0 2 2; found 0 0 1 1; found 0 0 1 1").dues("shotAt 0 #", 2, 1)
+                .dues("shotAt 1 #", 0, 0);
         CHECK.sentence("Throws `IndexOutOfBoundsException` if there is no such film");
         CHECK.run().none("shotAt # 0", Check.INDEX).none("shotAt # -1", Check.INDEX);
         CHECK.run(FOUR_SHOTS).refusedFor("shotAt # 0", Check.INDEX, "2", "-1").refused("shotAt 2 -1", Check.INDEX)

@@ -61,7 +61,8 @@ public final class RandomRunsTest {
         }
         if (seed % STATE_EVERY == 0) {
             List<String> some = calls.subList(0, 1 + random.nextInt(400));
-            check.same("run " + seed + ", state behind " + some.size() + " calls", State.behind(some, some.size(), Spliceroom::new),
+            check.same("run " + seed + ", state behind " + some.size() + " calls", State.behind(some, some.size(),
+                    Spliceroom::new),
                     State.behind(some, some.size(), Model::new));
         }
     }
@@ -149,7 +150,8 @@ public final class RandomRunsTest {
             case "addVersion": return new Object[] {one(films), near(0, 7)};
             case "leaveOut": return leaveOutArguments();
             case "frames": return new Object[] {one(filmsOfVersions.size())};
-            case "lend": return new Object[] {one(filmsOfVersions.size()), near(1, random.nextBoolean() ? 3 : 9), near(0, 3), near(1, 20)};
+            case "lend": return new Object[] {one(filmsOfVersions.size()), near(1, random.nextBoolean() ? 3 : 9),
+                    near(0, 3), near(1, 20)};
             case "show": case "giveBack":
                 return new Object[] {random.nextBoolean() ? loans - 1 : one(loans)};
             case "advance": return new Object[] {near(1, 9)};
