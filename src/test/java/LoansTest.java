@@ -91,8 +91,8 @@ public final class LoansTest {
             CHECK.run(TWO_REELS).refused("lend 0 " + numbers, Check.ARGUMENT)
                     .refused("lend 2 " + numbers, Check.ARGUMENT);
         }
-        // It is thrown ahead of all that is listed behind it: the film is lent, cannot be lent so,
-                or there were 20 loans.
+        // It is thrown ahead of all that is listed behind it: the film is lent, cannot be lent so, or there were 20
+        // loans.
         CHECK.run(TWO_REELS).go("lend 0 1 0 1").refused("lend 0 0 0 1", Check.ARGUMENT)
                 .refused("lend 1 1 4 1", Check.ARGUMENT)
                 .refused("lend 1 1 0 100", Check.ARGUMENT);
